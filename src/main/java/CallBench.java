@@ -247,7 +247,7 @@ public final class CallBench {
         if (!target.type.tellsOf(i) || !Kinds.isOfValue(kind)) {
             return refused(BAD);
         }
-        int had = target.type.told(i);
+        int had = target.type.kindAt(i);
         if (had == kind) {
             return done(h);
         }
@@ -430,7 +430,7 @@ public final class CallBench {
         if (!asked.type.tellsOf(i)) {
             return refused(BAD);
         }
-        return done(asked.type.told(i));
+        return done(asked.type.kindAt(i));
     }
 
     public int arity(int h) {
@@ -556,7 +556,7 @@ public final class CallBench {
     }
 
     private long withValue(long before, int kind, long value) {
-        long sum = with(before, rows.told(kind, value));
+        long sum = with(before, rows.bitsOf(kind, value));
         if (kind == Kinds.ROW) {
             for (int i = 0; i < rows.length(value); i++) {
                 sum = with(sum, rows.get(value, i));
@@ -703,7 +703,7 @@ public final class CallBench {
             return i == -1 || has(i);
         }
 
-        int told(int i) {
+        int kindAt(int i) {
             return i == -1 ? result : kind(i);
         }
 
@@ -1088,7 +1088,7 @@ public final class CallBench {
             }
         }
 
-        /** The same to a slot that is not for made ones. */
+        /** The row of a slot that is not for made ones becomes that of another one. */
         void copy(long from, int to) {
             if (to < 0 || to >= MADE) {
                 return;
@@ -1098,9 +1098,13 @@ public final class CallBench {
         }
 
         /** All items of a row become those of another one from a place on. */
-        private void copyItems(long from, int first, int to) {
+        void copyItems(long from, int first, int to) {
             for (int i = 0; i < length(to); i++) {
-                set(to, i, get(from, first + i));
+                int source = place(from, first + i);
+                int goal = place(to, i);
+                if (goal >= 0) {
+                    items[goal] = source < 0 ? 0 : items[source];
+                }
             }
         }
 
@@ -1114,7 +1118,7 @@ public final class CallBench {
         }
 
         /** What is told of a VALUE that came: of a ROW how many items. */
-        long told(int kind, long value) {
+        long bitsOf(int kind, long value) {
             return kind == Kinds.ROW ? length(value) : value;
         }
 
@@ -1142,13 +1146,6 @@ public final class CallBench {
             lengths[slot] = n;
             made++;
             madeItems += n;
-            return slot;
-        }
-
-        /** A new row of the n items from a place on, -1: there is no room for it. */
-        int makePart(long from, int first, int n) {
-            int slot = make(n);
-            copyItems(from, first, slot);
             return slot;
         }
 
@@ -1428,18 +1425,23 @@ public final class CallBench {
             if (from < 0 || from > to || to > rows.length(row)) {
                 return Failures.BOUNDS;
             }
-            int slot = rows.makePart(row, from, to - from);
-            return slot < 0 ? Failures.ROOM : give(slot);
+            int slot = rows.make(to - from);
+            if (slot < 0) {
+                return Failures.ROOM;
+            }
+            rows.copyItems(row, from, slot);
+            return give(slot);
         }
 
         private int changed(long row, int i, long v) {
             if (!rows.has(row, i)) {
                 return Failures.BOUNDS;
             }
-            int slot = rows.makePart(row, 0, rows.length(row));
+            int slot = rows.make(rows.length(row));
             if (slot < 0) {
                 return Failures.ROOM;
             }
+            rows.copyItems(row, 0, slot);
             rows.set(slot, i, v);
             return give(slot);
         }
@@ -1892,7 +1894,7 @@ public final class CallBench {
             boolean ended = eval(h, 0);
             int kind = ended ? h.type.result : Kinds.NOTHING;
             how = ended ? 0 : failures.kind(failed);
-            result = kind == Kinds.NOTHING ? 0 : rows.told(kind, came);
+            result = kind == Kinds.NOTHING ? 0 : rows.bitsOf(kind, came);
             keepRow(kind);
             if (ended) {
                 failed = NO_FAILURE;
@@ -2021,7 +2023,7 @@ public final class CallBench {
         private void tellBegun(Handle h, int d) {
             if (trace.begin(h)) {
                 for (int i = 0; i < h.type.arity; i++) {
-                    trace.tellArg(i, rows.told(h.type.kind(i), given(d, i)));
+                    trace.tellArg(i, rows.bitsOf(h.type.kind(i), given(d, i)));
                 }
             }
         }

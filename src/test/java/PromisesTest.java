@@ -730,6 +730,45 @@ public final class PromisesTest {
         row(b, 0, 100);
         C.due("the ROW that it was", b.call(sum), 0);
         C.due("its sum", b.result(), 6);
+        manyRows();
+    }
+
+    /** Each HANDLE and each ARG has a ROW of its own, as many as there can be. */
+    private static void manyRows() {
+        CallBench b = new CallBench();
+        row(b, 1, 5, 6);
+        b.constant(ROW, 1);
+        int last = b.leaf(40);
+        for (int k = 2; k < 120; k++) {
+            row(b, 1, k, 1);
+            b.bind(last, 0, 1);
+        }
+        for (int k = 0; k < 6; k++) {
+            row(b, k, 1000 + k, 7, 7);
+            b.arg(ROW, k);
+        }
+        C.refused(b, "call with six", () -> b.call(119), TYPE, 1);
+        b.noArgs();
+        for (int k = 2; k < 120; k++) {
+            comes(b, "the first item of " + k, k, k, INT, 0);
+        }
+        comes(b, "the first one", 0, 2);
+        C.due("its first item", b.item(0), 5);
+        C.due("its second item", b.item(1), 6);
+        CallBench six = new CallBench();
+        int choose = six.leaf(38);
+        int first = six.drop(six.drop(six.drop(choose, 3, ROW), 3, ROW), 3, ROW);
+        for (int k = 0; k < 5; k++) {
+            row(six, k, k, k);
+        }
+        comes(six, "the first of five rows", first, 2, TRUTH, 1, ROW, 0, ROW, 1, ROW, 2, ROW, 3, ROW, 4);
+        C.due("its item", six.item(1), 0);
+        comes(six, "the second of five rows", first, 2, TRUTH, 0, ROW, 0, ROW, 1, ROW, 2, ROW, 3, ROW, 4);
+        C.due("its item", six.item(1), 1);
+        CallBench zero = new CallBench();
+        row(zero, 0, 8);
+        zero.constant(ROW, 0);
+        comes(zero, "item 0 of handle 0", zero.after(0, zero.bind(zero.leaf(40), 1, 0)), 8);
     }
 
     private static void calls() {
@@ -1094,6 +1133,12 @@ public final class PromisesTest {
         comes(b, "200 rows of 10", loop, 10, ROW, 0, INT, -200);
         C.due("items", b.spent(3), 2000);
         fails(b, "201 rows of 10", loop, 7, change, ROW, 0, INT, -201);
+        b.board(0, 23);
+        comes(b, "86 rows of 23", loop, 23, ROW, 0, INT, -86);
+        C.due("items", b.spent(3), 1978);
+        fails(b, "the 2001st item", loop, 7, change, ROW, 0, INT, -87);
+        C.due("rows", b.spent(2), 86);
+        C.due("items", b.spent(3), 1978);
         int empty = b.drop(b.bind(b.bind(part, 2, 0), 1, 0), 1, INT);
         int empties = b.loop(b.leaf(7), b.drop(empty, 2, INT));
         comes(b, "200 rows of none", empties, 0, ROW, 0, INT, -200);
@@ -1251,6 +1296,8 @@ public final class PromisesTest {
         int zeros = b.bind(row, 0, 0);
         row(b, 0, 0, 1);
         alike(b, "ROWS by their items", zeros, b.bind(row, 0, 0), 0);
+        row(b, 0, 1, 0);
+        alike(b, "ROWS by their first items", zeros, b.bind(row, 0, 0), 0);
         b.board(5, 2);
         alike(b, "ROWS of the same items", zeros, b.bind(row, 0, 5), 1);
         b.board(5, 3);
