@@ -4,6 +4,9 @@ import java.util.function.LongSupplier;
 
 /** Counts the answers that are not the due ones, and prints them. */
 final class Check {
+    /** More calls than one check of a refused call makes. */
+    private static final int CALLS_OF_A_CHECK = 100;
+
     private int wrong;
     private int asked;
     private String part = "";
@@ -21,14 +24,15 @@ final class Check {
     }
 
     /** A call that is done: its answer, and that status() and rule() are 0 then. */
-    void done(CallBench b, String what, LongSupplier call, long want) {
+    void done(Bench b, String what, LongSupplier call, long want) {
         due(what, call.getAsLong(), want);
         due(what + ", status()", b.status(), 0);
         due(what + ", rule()", b.rule(), 0);
     }
 
     /** A call that is refused: its answer, status(), rule(), and that nothing else changed. */
-    void refused(CallBench b, String what, LongSupplier call, int want, int rule) {
+    void refused(Bench b, String what, LongSupplier call, int want, int rule) {
+        b.makeRoom(CALLS_OF_A_CHECK);
         List<Long> before = seen(b);
         due(what, call.getAsLong(), want);
         due(what + ", status()", b.status(), want);
@@ -41,33 +45,31 @@ final class Check {
         }
     }
 
-    void refused(CallBench b, String what, LongSupplier call, int want) {
+    void refused(Bench b, String what, LongSupplier call, int want) {
         refused(b, what, call, want, 0);
     }
 
-    /** What is told of an object, but for status() and rule(). */
-    static List<Long> seen(CallBench b) {
+    /** What is told of an object, but for status() and rule(): of long lists the ends. */
+    static List<Long> seen(Bench b) {
         List<Long> all = new ArrayList<>();
         all.add((long) b.how());
         all.add(b.result());
-        for (int i = -1; i < 65; i++) {
+        for (int i : new int[] {0, 1, 2, 63}) {
             all.add(b.item(i));
         }
         all.add((long) b.failedAt());
         for (int what = 0; what <= 4; what++) {
             all.add((long) b.told(what));
         }
-        for (int k = -1; k <= b.told(3); k++) {
+        for (int k : new int[] {0, 1, b.told(3) - 1, b.told(3)}) {
             all.add((long) b.path(k));
         }
-        for (int k = -1; k <= b.told(4); k++) {
-            for (int what = -1; what <= 6; what++) {
-                all.add(b.trace(k, what));
-            }
-        }
-        for (int what = -1; what <= 7; what++) {
+        for (int what = 0; what <= 6; what++) {
+            all.add(b.trace(0, what));
             all.add(b.spent(what));
         }
+        all.add(b.trace(b.told(4) - 1, 0));
+        all.add(b.trace(b.told(4), 0));
         all.add(b.digest());
         return all;
     }

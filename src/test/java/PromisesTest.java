@@ -1,10 +1,5 @@
 /** Each promise of the document by hand: ordinary inputs, the edges that it names, and wrong inputs. */
-public final class PromisesTest {
-    private static final int INT = 0, LONG = 1, REAL = 2, TRUTH = 3, WORD = 4, ROW = 5, NOTHING = 6;
-    private static final int BAD = -1, UNKNOWN = -2, FULL = -3, TYPE = -4, NO = -5, NONE = -6;
-    private static final long NO_NUMBER = 0x7ff8000000000000L;
-    private static final Check C = new Check();
-
+public final class PromisesTest extends Sheet {
     private PromisesTest() {
     }
 
@@ -30,72 +25,6 @@ public final class PromisesTest {
         C.end("PromisesTest");
     }
 
-    private static long real(double d) {
-        return Double.doubleToLongBits(d);
-    }
-
-    private static long word(String letters) {
-        long bits = 0;
-        for (char l : letters.toCharArray()) {
-            bits = bits << 5 | l - 'a' + 1;
-        }
-        return bits;
-    }
-
-    /** A row of THE BOARD gets these items. */
-    private static void row(CallBench b, int k, long... items) {
-        b.board(k, items.length);
-        for (int i = 0; i < items.length; i++) {
-            b.put(k, i, items[i]);
-        }
-    }
-
-    private static void fill(CallBench b) {
-        while (b.told(0) < 120) {
-            b.leaf(53);
-        }
-    }
-
-    /** Ends a call with these ARGS, told as KIND, bits, KIND, bits, .. */
-    private static int run(CallBench b, int h, long... args) {
-        b.noArgs();
-        for (int i = 0; i < args.length; i += 2) {
-            b.arg((int) args[i], args[i + 1]);
-        }
-        return b.call(h);
-    }
-
-    private static void comes(CallBench b, String what, int h, long due, long... args) {
-        C.due(what + ", call", run(b, h, args), 0);
-        C.due(what + ", result", b.result(), due);
-        C.due(what + ", how", b.how(), 0);
-        C.due(what + ", failedAt", b.failedAt(), NONE);
-    }
-
-    private static void fails(CallBench b, String what, int h, int kind, int at, long... args) {
-        C.due(what + ", call", run(b, h, args), kind);
-        C.due(what + ", how", b.how(), kind);
-        C.due(what + ", result", b.result(), 0);
-        C.due(what + ", failedAt", b.failedAt(), at);
-        C.due(what + ", path(0)", b.path(0), at);
-    }
-
-    private static void type(CallBench b, int h, int result, int... kinds) {
-        C.done(b, "arity " + h, () -> b.arity(h), kinds.length);
-        C.done(b, "type " + h + " -1", () -> b.type(h, -1), result);
-        for (int i = 0; i < kinds.length; i++) {
-            C.due("type " + h + " " + i, b.type(h, i), kinds[i]);
-        }
-        C.refused(b, "type " + h + " beyond", () -> b.type(h, kinds.length), BAD);
-    }
-
-    private static void about(CallBench b, int h, int... due) {
-        for (int what = 0; what < due.length; what++) {
-            C.due("about " + h + " " + what, b.about(h, what), due[what]);
-            C.due("status of about", b.status(), 0);
-        }
-    }
-
     private static void constants() {
         C.part("the constants and promise 1");
         C.due("BAD", CallBench.BAD, -1);
@@ -104,7 +33,7 @@ public final class PromisesTest {
         C.due("TYPE", CallBench.TYPE, -4);
         C.due("NO", CallBench.NO, -5);
         C.due("NONE", CallBench.NONE, -6);
-        CallBench b = new CallBench();
+        Bench b = new Bench();
         for (int what = 0; what <= 4; what++) {
             C.due("told " + what, b.told(what), 0);
         }
@@ -121,14 +50,14 @@ public final class PromisesTest {
         for (int what = 0; what <= 6; what++) {
             C.due("spent " + what, b.spent(what), 0);
         }
-        CallBench made = new CallBench();
+        Bench made = new Bench();
         C.due("status", made.status(), 0);
         C.due("rule", made.rule(), 0);
     }
 
     private static void boards() {
         C.part("promises 2, 3: board, put");
-        CallBench b = new CallBench();
+        Bench b = new Bench();
         C.done(b, "board 0 64", () -> b.board(0, 64), 64);
         C.done(b, "board 7 0", () -> b.board(7, 0), 0);
         C.done(b, "board 7 3", () -> b.board(7, 3), 3);
@@ -155,7 +84,7 @@ public final class PromisesTest {
 
     private static void makers() {
         C.part("promise 4: leaf");
-        CallBench b = new CallBench();
+        Bench b = new Bench();
         C.refused(b, "leaf -1", () -> b.leaf(-1), BAD);
         C.refused(b, "leaf 54", () -> b.leaf(54), BAD);
         String[] types = ("ii-i ii-i ii-i ii-i ii-i ii-i ii-i i-i i-i ll-l ll-l ll-l ll-l ll-l ll-l l-l rr-r rr-r "
@@ -181,7 +110,7 @@ public final class PromisesTest {
 
     private static void bitsOfConstants() {
         C.part("promise 5: constant");
-        CallBench b = new CallBench();
+        Bench b = new Bench();
         long[][] good = {{INT, 5}, {INT, Integer.MIN_VALUE}, {INT, Integer.MAX_VALUE}, {LONG, Long.MIN_VALUE},
             {REAL, 0}, {REAL, real(-0.0)}, {REAL, NO_NUMBER}, {REAL, real(Double.POSITIVE_INFINITY)},
             {REAL, real(Double.NEGATIVE_INFINITY)}, {REAL, 1}, {TRUTH, 0}, {TRUTH, 1}, {WORD, 0},
@@ -216,7 +145,7 @@ public final class PromisesTest {
 
     private static void combiners() {
         C.part("promise 6: bind");
-        CallBench b = new CallBench();
+        Bench b = new Bench();
         int change = b.leaf(44);
         C.done(b, "bind", () -> b.bind(change, 1, 2), 1);
         type(b, 1, ROW, ROW, LONG);
@@ -251,7 +180,7 @@ public final class PromisesTest {
 
     private static void drops() {
         C.part("promise 7: drop");
-        CallBench b = new CallBench();
+        Bench b = new Bench();
         int less = b.leaf(1);
         C.done(b, "drop at 0", () -> b.drop(less, 0, WORD), 1);
         type(b, 1, INT, WORD, INT, INT);
@@ -280,7 +209,7 @@ public final class PromisesTest {
 
     private static void permutes() {
         C.part("promise 8: permute");
-        CallBench b = new CallBench();
+        Bench b = new Bench();
         int item = b.leaf(44);
         int less = b.leaf(1);
         C.done(b, "permute", () -> b.permute(item, 3, 2 | 0 << 3 | 1 << 6 | 7 << 9 | 1 << 31), 2);
@@ -313,7 +242,7 @@ public final class PromisesTest {
 
     private static void filters() {
         C.part("promise 9: filter");
-        CallBench b = new CallBench();
+        Bench b = new Bench();
         int less = b.leaf(1);
         int letters = b.leaf(48);
         int own = b.leaf(8);
@@ -342,7 +271,7 @@ public final class PromisesTest {
 
     private static void afters() {
         C.part("promise 10: after");
-        CallBench b = new CallBench();
+        Bench b = new Bench();
         int letters = b.leaf(48);
         int minus = b.leaf(7);
         int note = b.leaf(50);
@@ -373,7 +302,7 @@ public final class PromisesTest {
 
     private static void folds() {
         C.part("promise 11: fold");
-        CallBench b = new CallBench();
+        Bench b = new Bench();
         int item = b.leaf(44);
         int part = b.leaf(42);
         int less = b.leaf(1);
@@ -408,7 +337,7 @@ public final class PromisesTest {
 
     private static void rulesOfGuards() {
         C.part("promise 12: guard");
-        CallBench b = new CallBench();
+        Bench b = new Bench();
         int plus = b.leaf(0);
         int less = b.leaf(1);
         int below = b.leaf(24);
@@ -450,7 +379,7 @@ public final class PromisesTest {
 
     private static void spreads() {
         C.part("promise 13: spread");
-        CallBench b = new CallBench();
+        Bench b = new Bench();
         int less = b.leaf(10);
         int choose = b.leaf(36);
         int ints = b.leaf(0);
@@ -494,7 +423,7 @@ public final class PromisesTest {
 
     private static void collects() {
         C.part("promise 14: collect");
-        CallBench b = new CallBench();
+        Bench b = new Bench();
         int sum = b.leaf(41);
         int select = b.leaf(38);
         int item = b.leaf(40);
@@ -530,7 +459,7 @@ public final class PromisesTest {
 
     private static void widens() {
         C.part("promise 15: widen");
-        CallBench b = new CallBench();
+        Bench b = new Bench();
         int reals = b.leaf(17);
         int longs = b.leaf(10);
         int ints = b.leaf(1);
@@ -575,7 +504,7 @@ public final class PromisesTest {
 
     private static void loops() {
         C.part("promise 16: loop");
-        CallBench b = new CallBench();
+        Bench b = new Bench();
         int less = b.leaf(1);
         int minus = b.leaf(7);
         int choose = b.leaf(35);
@@ -617,7 +546,7 @@ public final class PromisesTest {
 
     private static void catches() {
         C.part("promise 17: caught");
-        CallBench b = new CallBench();
+        Bench b = new Bench();
         int by = b.leaf(3);
         int minus = b.leaf(7);
         int nine = b.constant(INT, 9);
@@ -650,7 +579,7 @@ public final class PromisesTest {
 
     private static void ensures() {
         C.part("promise 18: ensure");
-        CallBench b = new CallBench();
+        Bench b = new Bench();
         int by = b.leaf(12);
         int note = b.leaf(50);
         int nothing = b.leaf(53);
@@ -677,7 +606,7 @@ public final class PromisesTest {
 
     private static void sites() {
         C.part("promises 19, 20: site, retarget");
-        CallBench b = new CallBench();
+        Bench b = new Bench();
         int plus = b.leaf(0);
         int less = b.leaf(1);
         int minus = b.leaf(7);
@@ -712,7 +641,7 @@ public final class PromisesTest {
 
     private static void arguments() {
         C.part("promises 21, 22: arg, noArgs");
-        CallBench b = new CallBench();
+        Bench b = new Bench();
         C.done(b, "noArgs", b::noArgs, 0);
         row(b, 0, 1, 2, 3);
         long[][] args = {{INT, 1}, {LONG, 2}, {REAL, NO_NUMBER}, {TRUTH, 1}, {WORD, word("hi")}, {ROW, 0}};
@@ -735,12 +664,12 @@ public final class PromisesTest {
 
     /** Each HANDLE and each ARG has a ROW of its own, as many as there can be. */
     private static void manyRows() {
-        CallBench b = new CallBench();
+        Bench b = new Bench();
         row(b, 1, 5, 6);
         b.constant(ROW, 1);
         int last = b.leaf(40);
         for (int k = 2; k < 120; k++) {
-            row(b, 1, k, 1);
+            b.put(1, 0, k);
             b.bind(last, 0, 1);
         }
         for (int k = 0; k < 6; k++) {
@@ -749,13 +678,13 @@ public final class PromisesTest {
         }
         C.refused(b, "call with six", () -> b.call(119), TYPE, 1);
         b.noArgs();
-        for (int k = 2; k < 120; k++) {
+        for (int k = 2; k < 120; k += 3) {
             comes(b, "the first item of " + k, k, k, INT, 0);
         }
         comes(b, "the first one", 0, 2);
         C.due("its first item", b.item(0), 5);
         C.due("its second item", b.item(1), 6);
-        CallBench six = new CallBench();
+        Bench six = new Bench();
         int choose = six.leaf(38);
         int first = six.drop(six.drop(six.drop(choose, 3, ROW), 3, ROW), 3, ROW);
         for (int k = 0; k < 5; k++) {
@@ -765,7 +694,7 @@ public final class PromisesTest {
         C.due("its item", six.item(1), 0);
         comes(six, "the second of five rows", first, 2, TRUTH, 0, ROW, 0, ROW, 1, ROW, 2, ROW, 3, ROW, 4);
         C.due("its item", six.item(1), 1);
-        CallBench zero = new CallBench();
+        Bench zero = new Bench();
         row(zero, 0, 8);
         zero.constant(ROW, 0);
         comes(zero, "item 0 of handle 0", zero.after(0, zero.bind(zero.leaf(40), 1, 0)), 8);
@@ -773,7 +702,7 @@ public final class PromisesTest {
 
     private static void calls() {
         C.part("promises 23 to 28: call, how, result, item, failedAt, path");
-        CallBench b = new CallBench();
+        Bench b = new Bench();
         int by = b.leaf(3);
         int same = b.leaf(27);
         int choose = b.leaf(38);
@@ -826,13 +755,26 @@ public final class PromisesTest {
 
     private static void functions() {
         C.part("the functions");
-        CallBench b = new CallBench();
+        intFunctions(eachLeaf());
+        longFunctions(eachLeaf());
+        truthFunctions(eachLeaf());
+        rowFunctions(eachLeaf());
+        wordFunctions(eachLeaf());
+        stateFunctions(eachLeaf());
+    }
+
+    /** Each FUNCTION has the HANDLE of its number. */
+    private static Bench eachLeaf() {
+        Bench b = new Bench();
         for (int f = 0; f < 54; f++) {
             b.leaf(f);
         }
+        return b;
+    }
+
+    private static void intFunctions(Bench b) {
         int min = Integer.MIN_VALUE;
         int max = Integer.MAX_VALUE;
-        long least = Long.MIN_VALUE;
         ints(b, 0, max, 1, min);
         ints(b, 1, min, 1, max);
         ints(b, 2, 65536, 65537, 65536);
@@ -852,6 +794,10 @@ public final class PromisesTest {
         comes(b, "7", 7, -5, INT, 5);
         comes(b, "8 of 0", 8, 0, INT, 0);
         fails(b, "8 of 1", 8, 6, 8, INT, 1);
+    }
+
+    private static void longFunctions(Bench b) {
+        long least = Long.MIN_VALUE;
         longs(b, 9, Long.MAX_VALUE, 1, least);
         longs(b, 10, least, 1, Long.MAX_VALUE);
         longs(b, 11, 1L << 62, 6, least);
@@ -867,6 +813,9 @@ public final class PromisesTest {
         fails(b, "12 by 0", 12, 1, 12, LONG, 7, LONG, 0);
         fails(b, "13 by 0", 13, 1, 13, LONG, 7, LONG, 0);
         comes(b, "15", 15, least, LONG, least);
+    }
+
+    private static void truthFunctions(Bench b) {
         for (int k = 0; k < 4; k++) {
             comes(b, "33", 33, k == 3 ? 1 : 0, TRUTH, k >> 1, TRUTH, k & 1);
             comes(b, "34", 34, k > 0 ? 1 : 0, TRUTH, k >> 1, TRUTH, k & 1);
@@ -881,20 +830,17 @@ public final class PromisesTest {
         comes(b, "36", 36, 5, TRUTH, 0, LONG, 4, LONG, 5);
         comes(b, "37", 37, 4, TRUTH, 1, WORD, 4, WORD, 5);
         comes(b, "37", 37, 5, TRUTH, 0, WORD, 4, WORD, 5);
-        rowFunctions(b);
-        wordFunctions(b);
-        stateFunctions(b);
     }
 
-    private static void ints(CallBench b, int f, int x, int y, long due) {
+    private static void ints(Bench b, int f, int x, int y, long due) {
         comes(b, f + " of " + x + " " + y, f, due, INT, x, INT, y);
     }
 
-    private static void longs(CallBench b, int f, long x, long y, long due) {
+    private static void longs(Bench b, int f, long x, long y, long due) {
         comes(b, f + " of " + x + " " + y, f, due, LONG, x, LONG, y);
     }
 
-    private static void rowFunctions(CallBench b) {
+    private static void rowFunctions(Bench b) {
         row(b, 0, 10, 20, 30, 20);
         row(b, 1);
         b.board(2, 64);
@@ -931,7 +877,7 @@ public final class PromisesTest {
         fails(b, "44 at -1", 44, 2, 44, ROW, 0, INT, -1, LONG, 1);
     }
 
-    private static void wordFunctions(CallBench b) {
+    private static void wordFunctions(Bench b) {
         comes(b, "30", 30, 1, WORD, word("ab"), WORD, word("ab"));
         comes(b, "30", 30, 0, WORD, word("ab"), WORD, word("abc"));
         String[] ordered = {"", "a", "aa", "aaaaaaaa", "ab", "az", "b", "ba", "zz"};
@@ -958,7 +904,7 @@ public final class PromisesTest {
         comes(b, "48 of none", 48, 0, WORD, 0);
     }
 
-    private static void stateFunctions(CallBench b) {
+    private static void stateFunctions(Bench b) {
         comes(b, "49", 49, 1);
         comes(b, "49", 49, 2);
         C.due("the count", b.spent(5), 2);
@@ -975,7 +921,7 @@ public final class PromisesTest {
 
     private static void sorts() {
         C.part("the steps of each sort");
-        CallBench b = new CallBench();
+        Bench b = new Bench();
         int minus = b.leaf(7);
         int plus = b.leaf(0);
         int count = b.leaf(49);
@@ -1002,7 +948,7 @@ public final class PromisesTest {
 
     private static void failures() {
         C.part("failures and their paths");
-        CallBench b = new CallBench();
+        Bench b = new Bench();
         int by = b.leaf(3);
         int own = b.leaf(8);
         int minus = b.leaf(7);
@@ -1037,7 +983,7 @@ public final class PromisesTest {
     }
 
     private static void twentyFailures() {
-        CallBench b = new CallBench();
+        Bench b = new Bench();
         int own = b.leaf(8);
         int one = b.constant(INT, 1);
         int failing = b.caught(b.bind(own, 0, 1), 6, one);
@@ -1060,7 +1006,7 @@ public final class PromisesTest {
 
     private static void limits() {
         C.part("depth, steps, rounds, room");
-        CallBench b = new CallBench();
+        Bench b = new Bench();
         int leaf = b.leaf(7);
         int h = leaf;
         for (int n = 1; n < 100; n++) {
@@ -1084,7 +1030,7 @@ public final class PromisesTest {
     }
 
     private static void steps() {
-        CallBench b = new CallBench();
+        Bench b = new Bench();
         int plus = b.leaf(0);
         int three = b.constant(INT, 3);
         int many = b.constant(INT, 999);
@@ -1106,7 +1052,7 @@ public final class PromisesTest {
     }
 
     private static void rounds() {
-        CallBench b = new CallBench();
+        Bench b = new Bench();
         int plus = b.leaf(0);
         int loop = b.loop(b.leaf(7), b.drop(plus, 2, INT));
         comes(b, "1000 rounds", loop, 499500, INT, 0, INT, -1000);
@@ -1117,7 +1063,7 @@ public final class PromisesTest {
     }
 
     private static void room() {
-        CallBench b = new CallBench();
+        Bench b = new Bench();
         b.board(0, 64);
         int change = b.leaf(44);
         int part = b.leaf(42);
@@ -1157,7 +1103,7 @@ public final class PromisesTest {
 
     private static void tellings() {
         C.part("promises 29, 30: trace, spent");
-        CallBench b = new CallBench();
+        Bench b = new Bench();
         int change = b.leaf(44);
         int sum = b.leaf(41);
         int both = b.after(change, sum);
@@ -1191,7 +1137,7 @@ public final class PromisesTest {
 
     private static void asking() {
         C.part("promises 31 to 34: type, arity, about, reaches");
-        CallBench b = new CallBench();
+        Bench b = new Bench();
         int plus = b.leaf(0);
         int below = b.leaf(24);
         int less = b.leaf(1);
@@ -1219,14 +1165,9 @@ public final class PromisesTest {
         C.done(b, "not any more", () -> b.reaches(over, plus), 0);
     }
 
-    private static void alike(CallBench b, String what, int one, int two, int due) {
-        C.done(b, what, () -> b.alike(one, two), due);
-        C.done(b, what + ", turned", () -> b.alike(two, one), due);
-    }
-
     private static void plainForms() {
         C.part("promises 35, 36: alike, quiet");
-        CallBench b = new CallBench();
+        Bench b = new Bench();
         int less = b.leaf(1);
         int plus = b.leaf(0);
         C.refused(b, "alike to none", () -> b.alike(less, 99), UNKNOWN);
@@ -1253,7 +1194,7 @@ public final class PromisesTest {
     }
 
     private static void permutesAlike() {
-        CallBench b = new CallBench();
+        Bench b = new Bench();
         int item = b.leaf(44);
         int turned = b.permute(item, 3, 1 | 2 << 3 | 0 << 6);
         int back = b.permute(turned, 3, 1 | 2 << 3 | 0 << 6);
@@ -1276,7 +1217,7 @@ public final class PromisesTest {
     }
 
     private static void bindsAlike() {
-        CallBench b = new CallBench();
+        Bench b = new Bench();
         int less = b.leaf(1);
         int dropped = b.drop(less, 1, INT);
         alike(b, "bind of what was put in", b.bind(dropped, 1, 3), less, 1);
@@ -1305,7 +1246,7 @@ public final class PromisesTest {
     }
 
     private static void guardsAlike() {
-        CallBench b = new CallBench();
+        Bench b = new Bench();
         int less = b.leaf(1);
         int below = b.leaf(24);
         int loud = b.bind(b.leaf(40), 0, 0);
@@ -1329,7 +1270,7 @@ public final class PromisesTest {
     }
 
     private static void othersAlike() {
-        CallBench b = new CallBench();
+        Bench b = new Bench();
         int by = b.leaf(3);
         int minus = b.leaf(7);
         int nothing = b.leaf(53);
@@ -1370,7 +1311,7 @@ public final class PromisesTest {
     }
 
     private static void quiets() {
-        CallBench b = new CallBench();
+        Bench b = new Bench();
         String loud = " 3 4 8 12 13 40 42 44 45 46 47 49 50 51 ";
         for (int f = 0; f < 54; f++) {
             int h = b.leaf(f);
@@ -1393,7 +1334,7 @@ public final class PromisesTest {
 
     private static void sweeping() {
         C.part("promises 37, 38: pin, sweep");
-        CallBench b = new CallBench();
+        Bench b = new Bench();
         C.refused(b, "pin none", () -> b.pin(0, true), UNKNOWN);
         C.done(b, "sweep none", b::sweep, 0);
         int plus = b.leaf(0);
@@ -1430,7 +1371,7 @@ public final class PromisesTest {
 
     private static void tolds() {
         C.part("promises 39 to 41: told, rule, status");
-        CallBench b = new CallBench();
+        Bench b = new Bench();
         b.leaf(3);
         b.leaf(0);
         b.pin(1, true);
@@ -1488,7 +1429,7 @@ public final class PromisesTest {
 
     private static void digests() {
         C.part("promise 42: digest");
-        CallBench b = new CallBench();
+        Bench b = new Bench();
         C.due("of a new one", b.digest(), mixed(0, 0, 0, 0, 0, 0, 0, 0, 0, 0));
         row(b, 1, 7, 8);
         b.leaf(44);
