@@ -499,7 +499,12 @@ public final class FormsTest extends Sheet {
             C.due("a constant", b.quiet(b.constant(kind, 1)), 1);
         }
         C.due("over a collect", b.quiet(b.bind(b.collect(b.leaf(41), 1), 0, 1)), 0);
-        C.due("nothing", b.quiet(b.leaf(53)), 1);
+        int nothing = b.leaf(53);
+        C.due("nothing", b.quiet(nothing), 1);
+        C.due("an ensure of quiet ones", b.quiet(b.ensure(plus, nothing)), 0);
+        C.due("a catch of quiet ones", b.quiet(b.caught(plus, OWN, plus)), 0);
+        C.due("a loop of quiet ones", b.quiet(b.loop(b.constant(INT, 1), plus)), 0);
+        C.due("a site of a quiet one", b.quiet(b.site(plus)), 0);
     }
 
     private static void reaches() {

@@ -25,6 +25,8 @@ public final class LimitsTest extends Sheet {
         itemsOfACall();
         boundsAheadOfRoom();
         rowsNotMade();
+        rowsOfTheirOwn();
+        rowsMadeAreNoOthers();
         traces();
         callsOfAnObject();
         C.end("LimitsTest");
@@ -700,6 +702,90 @@ public final class LimitsTest extends Sheet {
         comes(b, "a LOOP", b.loop(b.constant(INT, 300), b.drop(b.drop(b.bind(b.bind(choose, 0, 1), 1, 1), 1, INT), 2, WORD)),
                 2, ROW, 0, WORD, 0);
         C.due("rows", b.spent(2), 0);
+    }
+
+    private static long mixed(long before, long... numbers) {
+        long sum = before;
+        for (long n : numbers) {
+            sum = 31 * sum + n;
+        }
+        return sum;
+    }
+
+    /** Of 120 HANDLES, 6 ARGS and 8 rows of THE BOARD none has the row of another. */
+    private static void rowsOfTheirOwn() {
+        C.part("each ROW stands for itself, as many as there can be");
+        Bench b = new Bench();
+        b.board(0, 2);
+        b.put(0, 0, 5);
+        long due = 17;
+        for (int h = 0; h < MOST_HANDLES; h++) {
+            b.put(0, 1, 1000 + h);
+            b.constant(ROW, 0);
+            due = mixed(due, h, 1, ROW, NONE, NONE, NONE, 0, 2, 5, 1000 + h, 0);
+        }
+        for (int k = 0; k < 6; k++) {
+            b.put(0, 1, 2000 + k);
+            b.arg(ROW, 0);
+            due = mixed(due, ROW, 2, 5, 2000 + k);
+        }
+        for (int k = 0; k < 8; k++) {
+            b.board(k, 2);
+            b.put(k, 0, 6);
+            b.put(k, 1, 3000 + k);
+            due = mixed(due, 2, 6, 3000 + k);
+        }
+        C.done(b, "all of them", b::digest, mixed(due, 0, 0));
+        C.due("no arg is lost", b.noArgs(), 6);
+        for (int h : new int[] {0, 1, 114, 118, 119}) {
+            C.due("call", b.call(h), 0);
+            items(b, "the row of " + h, 5, 1000 + h);
+        }
+    }
+
+    private static void rowsMadeAreNoOthers() {
+        C.part("each ROW made in a call stands for itself");
+        Bench b = new Bench();
+        for (int k = 0; k < 8; k++) {
+            b.board(k, 64);
+            b.put(k, 0, 40 + k);
+            b.put(k, 63, 50 + k);
+        }
+        for (int k = 0; k < 8; k++) {
+            b.constant(ROW, k);
+        }
+        row(b, 0, 1, 2, 3);
+        int three = b.constant(ROW, 0);
+        int change = b.leaf(44);
+        int first = b.bind(b.bind(change, 2, 9), 1, 0);
+        int second = b.bind(b.bind(change, 2, 8), 1, 1);
+        int choose = b.permute(b.leaf(38), 3, order(2, 0, 1));
+        int both = b.filter(b.fold(choose, second), 0, first);
+        C.due("call", run(b, both, ROW, 0, TRUTH, 1), 0);
+        items(b, "the second one made", 9, 8, 3);
+        C.due("call", run(b, both, ROW, 0, TRUTH, 0), 0);
+        items(b, "the first one made", 9, 2, 3);
+        C.due("call", b.call(three), 0);
+        items(b, "what they were made of", 1, 2, 3);
+        b.board(0, 64);
+        b.put(0, 0, 77);
+        int rows = b.bind(b.loop(b.constant(INT, 31), change), 1, -5);
+        long before = b.digest();
+        C.due("31 rows of 64", run(b, rows, ROW, 0), 0);
+        C.due("the last item that changed", b.item(30), -5);
+        C.due("the item behind it", b.item(31), 0);
+        C.done(b, "no other row has changed", b::digest, before);
+        comes(b, "the first item of the first handle", b.after(0, b.bind(b.leaf(40), 1, 0)), 40);
+        for (int h = 0; h < 8; h++) {
+            C.due("call", b.call(h), 0);
+            C.due("the first item of " + h, b.item(0), 40 + h);
+            C.due("the last item of " + h, b.item(63), 50 + h);
+        }
+        int sum = b.leaf(41);
+        for (int k = 1; k < 8; k++) {
+            comes(b, "row " + k, sum, 90 + 2 * k, ROW, k);
+        }
+        comes(b, "the items of the first handle", b.after(0, sum), 90);
     }
 
     private static void traces() {

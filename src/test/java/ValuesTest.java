@@ -227,10 +227,17 @@ public final class ValuesTest extends Sheet {
         }
     }
 
+    /** A call with six ARGS, so that a FUNCTION that looks at more than its own would be wrong. */
+    private static void callBefore(Bench b) {
+        int six = widened(b, b.constant(INT, 0), 6, LONG);
+        comes(b, "a call before", six, 0, LONG, 1, LONG, 1, LONG, 1, LONG, 1, LONG, 1, LONG, 1);
+    }
+
     /** A FUNCTION of these VALUES, all of one KIND, comes to the due one. */
     private static void comesOf(int f, long due, int kind, long... values) {
         Bench b = new Bench();
         b.leaf(f);
+        callBefore(b);
         comes(b, what(f, values), 0, due, each(kind, values));
         spent(b, what(f, values), 1, 1, 0, 0, 0);
     }
@@ -239,6 +246,7 @@ public final class ValuesTest extends Sheet {
         Bench b = new Bench();
         b.leaf(53);
         b.leaf(f);
+        callBefore(b);
         fails(b, what(f, values), 1, failure, 1, each(kind, values));
         path(b, what(f, values), 1);
         spent(b, what(f, values), 1, 1, 0, 0, 1);
@@ -368,6 +376,9 @@ public final class ValuesTest extends Sheet {
         comesOf(19, 0, REAL, 1, real(2));
         comesOf(18, 1, REAL, 1, real(0.75));
         comesOf(18, 2, REAL, 1, real(1.5));
+        // Half way between two numbers, but for one digit far behind.
+        comesOf(18, real(1 + 0x1p-26 + 0x1p-27 + 0x1p-51 + 0x1p-52), REAL, real(1 + 0x1p-26),
+                real(1 + 0x1p-27 + 0x1p-51));
         comesOf(16, real(0.30000000000000004), REAL, real(0.1), real(0.2));
         comesOf(22, SIGN, REAL, SIGN);
         comesOf(22, real(-1), REAL, SIGN | 1);
@@ -499,6 +510,14 @@ public final class ValuesTest extends Sheet {
         sums.leaf(41);
         row(sums, 0, MOST, 1);
         comes(sums, "a sum wraps", 0, LEAST, ROW, 0);
+        Bench both = new Bench();
+        int changed = both.bind(both.bind(both.leaf(44), 2, 9), 1, 0);
+        int choose = both.fold(both.permute(both.leaf(38), 3, order(2, 0, 1)), changed);
+        row(both, 0, 4, 5);
+        C.due("call", run(both, choose, ROW, 0, TRUTH, 1), 0);
+        items(both, "the changed one", 9, 5);
+        C.due("call", run(both, choose, ROW, 0, TRUTH, 0), 0);
+        items(both, "the one it was made of", 4, 5);
         Bench first = new Bench();
         first.leaf(43);
         row(first, 0, 7, 9, 7, 9, 0);
